@@ -146,7 +146,7 @@ public final class OneLamp {
         if (!isZeroOrOne(what)) {
             return counted(BAD);
         }
-        if (now.squares() - Integer.bitCount(now.shelves) < 2) {
+        if (now.squares - Integer.bitCount(now.shelves) < 2) {
             return asTens(counted(NO));
         }
         places.findTwo(now);
@@ -225,13 +225,13 @@ public final class OneLamp {
     }
 
     public int count(int what) {
-        return counted(howMany(what));
+        return counted(sizeOf(what));
     }
 
     public long digest() {
         long h = 769;
         for (int what = 0; what <= 6; what++) {
-            h = 31 * h + howMany(what);
+            h = 31 * h + sizeOf(what);
         }
         h = 31 * h + now.w;
         for (int i = 0; i < now.readers; i++) {
@@ -245,13 +245,13 @@ public final class OneLamp {
             h = 31 * h + (now.books.isLit(i) ? 1 : 0);
             h = 31 * h + one.told;
         }
-        for (int square = 0; square < now.squares(); square++) {
+        for (int square = 0; square < now.squares; square++) {
             h = 31 * h + (now.hasShelf(square) ? 1 : 0);
         }
         return h;
     }
 
-    private int howMany(int what) {
+    private int sizeOf(int what) {
         switch (what) {
             case 0:
                 return now.readers;
@@ -264,7 +264,7 @@ public final class OneLamp {
             case 4:
                 return card.length;
             case 5:
-                return now.squares();
+                return now.squares;
             case 6:
                 return now.lamp;
             default:
@@ -314,7 +314,7 @@ public final class OneLamp {
     /** The pages of a minute by light alone; each kind rests on the one that it is under. */
     private static int pagesByLight(int kind, int light) {
         int print = light / LIGHT_A_PAGE;
-        int small = Math.max(0, print - 1);
+        int small = print > 0 ? print - 1 : 0;
         int large = light > 0 ? print + 1 : 0;
         switch (kind) {
             case SMALL:
@@ -327,17 +327,6 @@ public final class OneLamp {
             default:
                 return print;
         }
-    }
-
-    /** What one of a kind would read in a minute, were there pages enough. */
-    private static int pagesInMinute(int kind, int light, boolean lit, boolean othersLeft) {
-        if (kind == DUTIFUL && othersLeft) {
-            return 0;
-        }
-        if (kind == HEART && light == 0 && lit) {
-            return 1;
-        }
-        return pagesByLight(kind, light);
     }
 
     /**
@@ -354,7 +343,13 @@ public final class OneLamp {
         for (int i = 0; i < hall.readers; i++) {
             int light = lights[place + i];
             int left = before.left[i];
-            int pages = pagesInMinute(hall.reader[i].kind, light, before.isLit(i), othersLeft);
+            int kind = hall.reader[i].kind;
+            int pages = pagesByLight(kind, light);
+            if (kind == HEART && light == 0 && before.isLit(i)) {
+                pages = 1;
+            } else if (kind == DUTIFUL && othersLeft) {
+                pages = 0;
+            }
             pages = Math.min(pages, left);
             if (pages > 0 && light > 0) {
                 lit |= 1 << i;
@@ -471,6 +466,7 @@ public final class OneLamp {
         final int[] lights = new int[MOST_READERS];
         int w;
         int h;
+        int squares;
         int lamp;
         int oil;
         int readers;
@@ -487,6 +483,7 @@ public final class OneLamp {
         void become(Hall other) {
             w = other.w;
             h = other.h;
+            squares = other.squares;
             lamp = other.lamp;
             oil = other.oil;
             readers = other.readers;
@@ -504,13 +501,14 @@ public final class OneLamp {
             }
             w = newW;
             h = newH;
+            squares = newW * newH;
             lamp = 0;
             oil = FIRST_OIL;
             readers = 0;
             shelves = 0;
             books.lit = 0;
             minutes.kept = 0;
-            return squares();
+            return squares;
         }
 
         int putShelf(int square, boolean is) {
@@ -613,12 +611,8 @@ public final class OneLamp {
             return 1;
         }
 
-        int squares() {
-            return w * h;
-        }
-
         boolean hasSquare(int square) {
-            return square >= 0 && square < squares();
+            return square >= 0 && square < squares;
         }
 
         boolean hasReader(int who) {
@@ -626,12 +620,12 @@ public final class OneLamp {
         }
 
         boolean hasShelf(int square) {
-            return hasSquare(square) && (shelves >> square & 1) == 1;
+            return square >= 0 && square < squares && (shelves >> square & 1) == 1;
         }
 
         /** A square of the hall where a lamp may be. */
         boolean isOpen(int square) {
-            return hasSquare(square) && !hasShelf(square);
+            return square >= 0 && square < squares && !hasShelf(square);
         }
 
         boolean isFree(int square) {
@@ -671,27 +665,31 @@ public final class OneLamp {
         }
 
         int lightAt(int at, int from) {
-            int light = Math.max(0, FULL_LIGHT - LIGHT_A_STEP * stepsBetween(at, from));
-            if (column(at) == column(from) || row(at) == row(from)) {
-                return Math.max(0, light - LIGHT_A_SHELF * shelvesBetween(at, from));
+            int acrossX = Math.abs(column(at) - column(from));
+            int acrossY = Math.abs(row(at) - row(from));
+            int light = FULL_LIGHT - LIGHT_A_STEP * (acrossX + acrossY);
+            if (acrossY == 0) {
+                light -= LIGHT_A_SHELF * shelvesBetween(at, from, 1);
+            } else if (acrossX == 0) {
+                light -= LIGHT_A_SHELF * shelvesBetween(at, from, w);
+            } else if (hasShelf(row(at) * w + column(from)) && hasShelf(row(from) * w + column(at))) {
+                light /= 2;
             }
-            boolean shaded = hasShelf(row(at) * w + column(from)) && hasShelf(row(from) * w + column(at));
-            return shaded ? light / 2 : light;
+            return Math.max(0, light);
         }
 
-        private int shelvesBetween(int a, int b) {
-            int step = row(a) == row(b) ? 1 : Math.max(1, w);
+        private int shelvesBetween(int a, int b, int step) {
             int end = Math.max(a, b);
             int sum = 0;
-            for (int square = Math.min(a, b) + step; square < end; square += step) {
-                sum += hasShelf(square) ? 1 : 0;
+            for (int square = Math.min(a, b) + step; step > 0 && square < end; square += step) {
+                sum += shelves >> square & 1;
             }
             return sum;
         }
 
         /** A row of lights for each square where a lamp may be, one a reader. */
         void fillLights(int[] table) {
-            for (int square = 0; square < squares(); square++) {
+            for (int square = 0; square < squares; square++) {
                 int place = square * MOST_READERS;
                 if (hasShelf(square) || place + readers > table.length) {
                     continue;
@@ -829,8 +827,8 @@ public final class OneLamp {
 
         /** No less than one can read until the end: as if the lamp stood at the seat. */
         private int pagesToCome(Hall hall, int depth, int i) {
-            int most = (minutes - depth) * pagesByLight(hall.reader[i].kind, FULL_LIGHT);
-            return Math.min(most, books[depth].left[i]);
+            int byLight = (minutes - depth) * pagesByLight(hall.reader[i].kind, FULL_LIGHT);
+            return Math.min(byLight, books[depth].left[i]);
         }
     }
 
@@ -847,8 +845,8 @@ public final class OneLamp {
 
         void findStand(Hall hall) {
             hall.fillLights(lights);
-            worth = NONE;
-            for (int square = 0; square < hall.squares(); square++) {
+            forget();
+            for (int square = 0; square < hall.squares; square++) {
                 if (hall.isOpen(square)) {
                     weigh(hall, lights, square * MOST_READERS, square, square);
                 }
@@ -857,9 +855,9 @@ public final class OneLamp {
 
         void findTwo(Hall hall) {
             hall.fillLights(lights);
-            worth = NONE;
-            for (int a = 0; a < hall.squares(); a++) {
-                for (int b = a + 1; b < hall.squares(); b++) {
+            forget();
+            for (int a = 0; a < hall.squares; a++) {
+                for (int b = a + 1; b < hall.squares; b++) {
                     if (hall.isOpen(a) && hall.isOpen(b)) {
                         joinLights(hall, a, b);
                         weigh(hall, both, 0, a, b);
@@ -881,7 +879,7 @@ public final class OneLamp {
                 trial.reader[a].square = hall.reader[a].square;
             }
             for (int a = 0; a < hall.readers; a++) {
-                for (int square = 0; square < hall.squares(); square++) {
+                for (int square = 0; square < hall.squares; square++) {
                     if (hall.isFree(square)) {
                         trial.reader[a].square = square;
                         weighChange(trial, 1000 + 100 * a + square);
@@ -895,8 +893,8 @@ public final class OneLamp {
         /** The shelf's move by which one lamp would stand best; trial is written over. */
         int bestShelf(Hall hall, Hall trial) {
             beginChanges(hall, trial);
-            for (int shelf = 0; shelf < hall.squares(); shelf++) {
-                for (int square = 0; square < hall.squares(); square++) {
+            for (int shelf = 0; shelf < hall.squares; shelf++) {
+                for (int square = 0; square < hall.squares; square++) {
                     if (hall.hasShelf(shelf) && hall.isFree(square) && square != hall.lamp) {
                         trial.shelves = hall.shelves & ~(1 << shelf) | 1 << square;
                         weighChange(trial, 100 * shelf + square);
@@ -904,6 +902,12 @@ public final class OneLamp {
                 }
             }
             return change;
+        }
+
+        private void forget() {
+            worth = NONE;
+            first = NONE;
+            second = NONE;
         }
 
         private void beginChanges(Hall hall, Hall trial) {
@@ -958,12 +962,14 @@ public final class OneLamp {
         private static final int BLANK = 32;
         private static final int MOST_FIGURES = 2;
         private static final int MOST_NUMBERS = 4;
+        /** The shortest item has five bytes: oil1; */
+        private static final int MOST_ITEMS = 40;
 
         int length;
         int items;
         private final int[] text = new int[MOST_TEXT];
-        private final int[] words = new int[MOST_TEXT];
-        private final int[] numbers = new int[MOST_TEXT * MOST_NUMBERS];
+        private final int[] words = new int[MOST_ITEMS];
+        private final int[] numbers = new int[MOST_ITEMS * MOST_NUMBERS];
         private int tokenStart;
         private int tokenEnd;
 
@@ -991,7 +997,7 @@ public final class OneLamp {
         int findItems() {
             items = 0;
             tokenEnd = 0;
-            for (int i = 0; i < MOST_TEXT && !(items > 0 && isAtEnd()); i++) {
+            for (int i = 0; i < MOST_ITEMS && !(items > 0 && isAtEnd()); i++) {
                 int fault = findItem();
                 if (fault != NONE) {
                     return fault;
