@@ -506,6 +506,7 @@ public final class OneLamp {
             oil = FIRST_OIL;
             readers = 0;
             shelves = 0;
+            // whoever comes has read nothing yet: no later call sets a bit of nobody
             books.lit = 0;
             minutes.kept = 0;
             return squares;
@@ -542,7 +543,6 @@ public final class OneLamp {
             one.strength = FIRST_STRENGTH;
             one.told = 0;
             books.left[readers] = pages;
-            books.lit &= ~(1 << readers);
             minutes.kept = 0;
             readers++;
             return readers - 1;

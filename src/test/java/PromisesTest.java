@@ -87,6 +87,13 @@ public final class PromisesTest {
     due("strength anew", x.string(0, 2), 1);
     due("told anew", x.told(0, 2), 0);
     due("count(5)", x.count(5), 6);
+    x.hall(2, 2);
+    x.reader(0, HEART, 9, 1);
+    x.burn(0);
+    x.hall(2, 2);
+    x.reader(0, HEART, 9, 1);
+    x.oil(0);
+    due("nobody has read ahead of it", x.burn(0), 0);
   }
 
   private static void shelf() {
@@ -262,6 +269,11 @@ public final class PromisesTest {
     reads("hal", -10);
     reads(" halls 2 2;", -11);
     reads("Hall 2 2;", -10);
+    reads("ball 2 2;", -10);
+    reads("hallz 2 2;", -10);
+    reads("hall 2 2; stringstring 0 1;", -20);
+    reads("hall2 2;" + "oil1;".repeat(38), 39);
+    reads("hall2 2;" + "oil1;".repeat(38) + "oi", -208);
     reads(";", -10);
     reads("shelf 1;", -10);
     reads("2 hall 2 2;", -10);
@@ -553,6 +565,11 @@ public final class PromisesTest {
     x.reader(5, PRINT, 20, 1);
     due("both together: 6 and 8", x.two(0), 1);
     due("both together: 6 and 8", x.two(1), 3);
+    x = hallOf(5, 5);
+    x.reader(12, GREEK, 20, 1);
+    x.reader(24, GREEK, 20, 1);
+    due("8 and 4 at the one, 12 at the other", x.two(0), 224);
+    due("8 and 4 at the one, 12 at the other", x.two(1), 2);
     x = hallOf(2, 2);
     x.shelf(1, true);
     x.shelf(3, true);
@@ -582,6 +599,20 @@ public final class PromisesTest {
     due("two change", x.seats(), 2);
     due("nothing changes", x.digest(), before);
 
+    x = hallOf(5, 5);
+    int[] others = {0, 9, 0, 0, 9};
+    int[] seat = {24, 0, 3, 20, 4};
+    for (int i = 0; i < 5; i++) x.reader(seat[i], PRINT, 20, others[i]);
+    for (int q = 0; q < 25; q++) x.shelf(q, true);
+    due("all others are shelves", x.count(1), 20);
+    due("the second and the third change", x.seats(), 102);
+
+    x = hallOf(5, 5);
+    x.reader(12, PRINT, 20, 0);
+    x.reader(0, PRINT, 20, 1);
+    x.reader(24, PRINT, 20, 1);
+    due("the second goes", x.seats(), 1100 + 14);
+
     x = hallOf(2, 2);
     for (int q = 0; q < 4; q++) x.reader(q, PRINT, 20, 1);
     due("none is better", x.seats(), OneLamp.NONE);
@@ -605,6 +636,14 @@ public final class PromisesTest {
     due("nothing changes", x.digest(), before);
     x.shelf(1, false);
     due("none is better", x.moved(), OneLamp.NONE);
+    statusIs(x, 0, 0, 0);
+    x = hallOf(3, 2);
+    x.lamp(2);
+    x.reader(1, PRINT, 20, 1);
+    x.reader(3, PRINT, 20, 1);
+    x.shelf(0, true);
+    x.shelf(4, true);
+    due("away from a corner, the first shelf", x.moved(), 5);
     statusIs(x, 0, 0, 0);
   }
 
@@ -686,6 +725,7 @@ public final class PromisesTest {
     x.reader(0, HEART, 20, 1);
     x.burn(0);
     x.told(0, 1);
+    due("a way, by heart", x.way(1, -1), 4);
     due("nobody read ahead of it", x.been(24, 1, 0), 0);
     x.told(0, 0);
     due("nobody read ahead of it", x.been(24, 1, 0), 3);
