@@ -277,12 +277,13 @@ public final class OneLamp {
         if (m < 0 || m > MOST_WAY || m > now.oil || i < NONE || who < 0 || who >= 1 << now.readers) {
             return asTens(counted(BAD));
         }
-        if (i >= m) {
-            return NOT_SO_MANY;
-        }
         ways.findBest(now, m, who);
+        // only a way that there is has minutes to be asked for
         if (ways.most == NONE) {
             return NONE;
+        }
+        if (i >= m) {
+            return NOT_SO_MANY;
         }
         return i == NONE ? ways.most : ways.best[i];
     }

@@ -297,7 +297,6 @@ public final class ModelTest {
 
     int done(int m, int who, int i) {
       if (m < 0 || m > 6 || m > s.oil || i < -1 || who < 0 || who >= 1 << s.ones.size()) return bad(-10);
-      if (i >= m) return -5;
       int most = -1;
       int[] best = null;
       for (int[] way : s.ways(m, s.lamp())) {
@@ -311,6 +310,7 @@ public final class ModelTest {
         }
       }
       if (best == null) return -1;
+      if (i >= m) return -5;
       return i < 0 ? most : best[i];
     }
 

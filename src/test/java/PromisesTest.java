@@ -515,6 +515,11 @@ public final class PromisesTest {
     due("i", x.done(1, 1, -2), -10);
     due("of none", x.done(0, 1, -1), OneLamp.NONE);
     due("of none", x.done(0, 0, -1), 0);
+    due("of none, not so many", x.done(0, 0, 0), -5);
+    due("not so many", x.done(2, 1, MAX), -5);
+    due("no way, whichever minute", x.done(0, 1, 0), OneLamp.NONE);
+    due("no way, whichever minute", x.done(1, 1, 1), OneLamp.NONE);
+    due("no way, whichever minute", x.done(2, 2, MAX), OneLamp.NONE);
     x.oil(1);
     due("oil", x.done(2, 1, -1), -10);
     statusIs(x, 7, 0, 0);
