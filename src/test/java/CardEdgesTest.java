@@ -144,6 +144,20 @@ public final class CardEdgesTest {
         fault(HALL + " " + word, 10);
       }
     });
+    e.holds(11, "FAULT: a word that is none by one letter, by one letter more", () -> {
+      for (String word : new String[] {"hall", "shelf", "reader", "lamp", "oil", "string"}) {
+        String ahead = word.equals("hall") ? "" : HALL;
+        for (int i = 0; i <= word.length(); i++) {
+          for (char c : new char[] {'a', 'q', 'z'}) {
+            String longer = word.substring(0, i) + c + word.substring(i);
+            fault(ahead + longer + " 1 1;", ahead.length());
+            if (i == word.length() || word.charAt(i) == c) continue;
+            String other = word.substring(0, i) + c + word.substring(i + 1);
+            fault(ahead + other + " 1 1;", ahead.length());
+          }
+        }
+      }
+    });
     e.holds(11, "words of letters a .. z", () -> {
       fault("HALL 2 2;", 0);
       fault("Hall 2 2;", 0);
@@ -347,6 +361,18 @@ public final class CardEdgesTest {
       Edges.type(x, "hall 2 2;reader 0 4 20 1;");
       e.due("read", x.read(), 2);
       e.due("digest", x.digest(), Edges.digestOf(1, 0, 8, 0, 25, 4, 0, 2, 0, 4, 20, 1, 1, 20, 0, 0, 0, 0, 0, 0));
+    });
+    e.holds(11, "told anew: the sides of the hall, for WAYS and light", () -> {
+      for (int[] other : new int[][] {{5, 2}, {2, 5}, {2, 2}, {5, 5}}) {
+        OneLamp x = with(Edges.hallOf(other[0], other[1]), "hall 3 5;");
+        e.due("read", x.read(), 1);
+        e.due("been(12, 2, 0)", x.been(12, 2, 0), Edges.hallOf(3, 5).been(12, 2, 0));
+        e.due("been(8, 2, 1)", x.been(8, 2, 1), Edges.hallOf(3, 5).been(8, 2, 1));
+        e.due("light(2, 3)", x.light(2, 3), 6);
+        x.lamp(11);
+        e.due("burn(14)", x.burn(14), 0);
+        e.due("burn(15)", x.burn(15), OneLamp.BAD);
+      }
     });
     e.holds(11, "THE TEXT stays, and is read again", () -> {
       OneLamp x = with(Edges.busy(), "hall 3 3;lamp 8;");

@@ -414,6 +414,15 @@ public final class HallEdgesTest {
     });
   }
 
+  private static void stringStays() {
+    e.holds(7, "minutes that may be undone stay", () -> {
+      OneLamp x = Edges.busy();
+      e.due("string(1, 3)", x.string(1, 3), 1);
+      e.due("count(3)", x.count(3), 3);
+      e.due("undo()", x.undo(), 1);
+    });
+  }
+
   private static void light() {
     e.holds(8, "BAD: at is no SQUARE", () -> {
       for (int q : new int[] {MIN, -1, 25, MAX}) e.badEverywhere("light(" + q + ", 0)", x -> x.light(q, 0));
@@ -516,6 +525,7 @@ public final class HallEdgesTest {
     lamp();
     oil();
     string();
+    stringStays();
     light();
     e.end();
   }

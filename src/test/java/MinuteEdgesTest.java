@@ -28,6 +28,13 @@ public final class MinuteEdgesTest {
 
   private static int stay(OneLamp x) { return x.burn(x.count(6)); }
 
+  /** The digest, as if no minute could be undone: 8 values a READER, one a SQUARE and 4 more come behind count(3). */
+  private static long digestWithoutMinutes(OneLamp x) {
+    long power = 1;
+    for (int i = 0; i < 4 + 8 * x.count(0) + x.count(5); i++) power *= 31;
+    return x.digest() - power * x.count(3);
+  }
+
   private static void where() {
     e.holds(12, "BAD: no SQUARE", () -> {
       for (int q : new int[] {MIN, -1, 25, 26, MAX}) e.badEverywhere("burn(" + q + ")", x -> x.burn(q));
@@ -197,6 +204,20 @@ public final class MinuteEdgesTest {
       e.due("two shelves between", x.burn(3), 1);
       e.due("not right behind", x.burn(3), 0);
     });
+    e.holds(12, "HEART: right behind a minute with LIGHT, however little", () -> {
+      OneLamp x = lit(1, HEART, 20);
+      e.due("by 1", stay(x), 1);
+      x.oil(0);
+      e.due("dark", stay(x), 1);
+    });
+    e.holds(12, "HEART: all who read by LIGHT have a page in the dark", () -> {
+      OneLamp x = hallOf(3, 2);
+      for (int q = 0; q < 5; q++) x.reader(q, HEART, 20, 1);
+      x.oil(1);
+      e.due("light", x.burn(1), 4 + 3 * 4);
+      e.due("dark", x.burn(1), 5);
+      e.due("dark again", x.burn(1), 0);
+    });
     e.holds(12, "HEART: none in the first minute of all", () -> e.due("dark", stay(lit(0, HEART, 20)), 0));
     e.holds(12, "HEART: not in a minute with LIGHT", () -> {
       OneLamp x = lit(12, HEART, 20);
@@ -285,6 +306,12 @@ public final class MinuteEdgesTest {
       x.undo();
       e.due("not again", x.burn(0), 3);
     });
+    e.holds(12, "DUTIFUL: one page left is enough", () -> {
+      OneLamp x = hallOf(5, 5);
+      x.reader(24, PRINT, 1, 1);
+      x.reader(0, DUTIFUL, 20, 1);
+      e.due("burn(0)", x.burn(0), 0);
+    });
     e.holds(12, "DUTIFUL: two of them, one behind the other", () -> {
       OneLamp x = hallOf(2, 2);
       x.reader(0, DUTIFUL, 3, 1);
@@ -361,6 +388,25 @@ public final class MinuteEdgesTest {
       x.undo();
       x.oil(0);
       e.due("ahead of all LIGHT", stay(x), 0);
+    });
+    e.holds(13, "12 at most: who read by LIGHT, of the last ones, too", () -> {
+      for (int minutes = 12; minutes <= 20; minutes++) {
+        OneLamp x = hallOf(5, 5);
+        x.reader(0, HEART, 20, 1);
+        x.reader(24, LARGE, 20, 1);
+        long[] was = new long[minutes];
+        for (int i = 0; i < minutes; i++) {
+          x.lamp(i % 3 == 0 ? 0 : 24);
+          x.oil(i % 4 == 3 ? 0 : 12);
+          was[i] = digestWithoutMinutes(x);
+          stay(x);
+        }
+        for (int i = minutes - 1; i >= minutes - 12; i--) {
+          e.due("undo()", x.undo(), 1);
+          e.due("as ahead of minute " + i + " of " + minutes, digestWithoutMinutes(x), was[i]);
+        }
+        e.due("undo()", x.undo(), OneLamp.NO);
+      }
     });
     e.holds(13, "as ahead of the last minute: all READERS", () -> {
       OneLamp x = Edges.crammed();

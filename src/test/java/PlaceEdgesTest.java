@@ -58,6 +58,7 @@ public final class PlaceEdgesTest {
     e.holds(17, "the first SQUARE, the last", () -> {
       standsAt(sit(lampAt(hallOf(5, 5), 12), 0, 1), 0, 3);
       standsAt(sit(hallOf(5, 5), 24, 1), 24, 3);
+      standsAt(sit(hallOf(5, 5), 0, 0, 1, 0, 2, 0, 3, 0, 24, 1), 24, 3);
     });
     e.holds(17, "of like ones the least", () -> {
       standsAt(sit(hallOf(5, 5), 24, 1, 0, 1), 0, 3);
@@ -274,10 +275,10 @@ public final class PlaceEdgesTest {
       e.due("moved()", x.moved(), 24);
     });
     e.holds(20, "another SQUARE: no SHELF", () -> {
-      OneLamp x = shelves(shaded(2), 5);
       e.quiet(() -> shelves(shaded(2), 5), "no SQUARE is left", OneLamp::moved, NONE);
-      x.shelf(3, false);
-      e.due("one corner is open", x.stand(1), 5);
+      OneLamp x = shelves(shaded(2), 5);
+      x.shelf(5, false);
+      e.due("one is left again", x.moved(), 105);
     });
     e.holds(20, "another SQUARE: no READER", () -> {
       Edges.Made made = () -> {
@@ -289,10 +290,16 @@ public final class PlaceEdgesTest {
     });
     e.holds(20, "another SQUARE: not THE LAMP's", () -> {
       e.due("THE LAMP at 5", shaded(5).moved(), 102);
+      e.due("THE LAMP at 2", shaded(2).moved(), 105);
       e.quiet(() -> shelves(shaded(5), 2), "no SQUARE is left", OneLamp::moved, NONE);
-      OneLamp x = shelves(shaded(2), 5);
-      x.shelf(5, false);
-      e.due("THE LAMP at 2", x.moved(), 105);
+    });
+    e.holds(20, "put to another SQUARE: there it throws shade", () -> {
+      OneLamp x = shelves(sit(lampAt(hallOf(5, 2), 9), 0, 1, 3, 1), 2);
+      e.due("stand(1)", x.stand(1), 3);
+      e.due("at 1 it is between them, too", x.moved(), 204);
+      x = shelves(sit(lampAt(hallOf(5, 5), 24), 2, 1, 17, 1), 12, 0, 1, 3, 4, 5);
+      e.due("stand(1)", x.stand(1), 3);
+      e.due("at 7 it is between them, too; at 6 it is not", x.moved(), 1206);
     });
     e.holds(20, "the first: by SHELF, then SQUARE", () -> {
       OneLamp x = shelves(sit(lampAt(hallOf(3, 3), 8), 0, 1, 4, 1), 1, 3);
@@ -394,6 +401,18 @@ public final class PlaceEdgesTest {
       restsAt(x, 8, 24);
       x.undo();
       restsAt(x, NONE, NONE);
+    });
+    e.holds(21, "READERS with PAGES left: one page is enough", () -> {
+      OneLamp x = hallOf(5, 5);
+      x.reader(24, PRINT, 1, 1);
+      restsAt(x, 8, 24);
+      x = hallOf(5, 5);
+      x.reader(24, PRINT, 4, 1);
+      x.lamp(24);
+      x.burn(24);
+      x.lamp(0);
+      e.due("left", x.left(0), 1);
+      restsAt(x, 8, 24);
     });
     e.holds(21, "STRENGTH (0 .. 9): none does not pull", () -> {
       OneLamp x = sit(hallOf(5, 5), 24, 1);

@@ -91,6 +91,20 @@ public final class StateEdgesTest {
       x.from(0);
       e.due("digest", x.digest(), was);
     });
+    e.holds(25, "keep all: the sides of the hall, for WAYS and light", () -> {
+      for (int[] other : new int[][] {{5, 2}, {2, 5}, {2, 2}, {5, 5}}) {
+        OneLamp x = hallOf(3, 5);
+        x.image(0);
+        x.hall(other[0], other[1]);
+        x.from(0);
+        e.due("been(12, 2, 0)", x.been(12, 2, 0), hallOf(3, 5).been(12, 2, 0));
+        e.due("been(8, 2, 1)", x.been(8, 2, 1), hallOf(3, 5).been(8, 2, 1));
+        e.due("light(2, 3)", x.light(2, 3), 6);
+        x.lamp(11);
+        e.due("burn(14)", x.burn(14), 0);
+        e.due("burn(15)", x.burn(15), OneLamp.BAD);
+      }
+    });
     e.holds(25, "minutes that may be undone they keep: all twelve", () -> {
       OneLamp x = Edges.crammed(), y = Edges.crammed();
       x.image(0);
@@ -370,6 +384,24 @@ public final class StateEdgesTest {
       e.due("put elsewhere, without oil", x.digest(), one(x, PRINT, 20, 1));
       x.burn(2);
       e.due("a dark minute", x.digest(), one(x, PRINT, 20, 0));
+    });
+    e.holds(28, "read some by LIGHT: however little there was", () -> {
+      OneLamp x = hallOf(5, 5);
+      x.reader(0, LARGE, 20, 5);
+      x.lamp(13);
+      x.shelf(3, true);
+      x.shelf(10, true);
+      e.due("LIGHT", x.light(0, 13), 1);
+      e.due("burn(13)", x.burn(13), 1);
+      e.due("digest", x.digest(), Edges.digestOf(1, 2, 7, 1, 0, 25, 13, 5, 0, LARGE, 20, 5, 1, 19, 1, 0,
+          0, 0, 0, 1, 0, 0, 0, 0, 0, 0, 1, 0, 0, 0, 0, 0, 0, 0, 0, 0, 0, 0, 0, 0, 0));
+    });
+    e.holds(28, "read some: both, one behind the other", () -> {
+      OneLamp x = hallOf(2, 2);
+      x.reader(0, PRINT, 20, 1);
+      x.reader(1, PRINT, 20, 1);
+      x.burn(0);
+      e.due("digest", x.digest(), Edges.digestOf(2, 0, 7, 1, 0, 4, 0, 2, 0, 0, 20, 1, 1, 17, 1, 0, 1, 0, 20, 1, 1, 18, 1, 0, 0, 0, 0, 0));
     });
     e.holds(28, "read some: each for himself; who comes has not", () -> {
       OneLamp x = hallOf(5, 2);

@@ -426,6 +426,7 @@ public final class WayEdgesTest {
       OneLamp x = hallOf(5, 5);
       x.reader(0, HEART, 20, 1);
       x.burn(0);
+      e.due("a WAY, which begins as it is now", x.way(1, NONE), 4);
       e.due("been(24, 1, 0), nothing told", x.been(24, 1, 0), 3);
       x.told(0, 1);
       e.due("been(24, 1, 0), one told", x.been(24, 1, 0), 0);
