@@ -27,7 +27,11 @@ public final class LanguageTest {
     "transient", "var", "yield", "Object", "Thread", "Class", "Exception", "Random", "currentTimeMillis", "nanoTime",
     "\\w+Exact", "hashCode", "toString", "default\\s*->", "goto",
   };
+  private static final int MOST_DEEP = 8;
   private static int wrong = 0;
+
+  /** A method or constructor as it is written: its class, its name, its lines. */
+  private record Written(String in, String name, String code) { }
 
   private static void must(boolean holds, String what) {
     if (holds) return;
@@ -90,9 +94,73 @@ public final class LanguageTest {
     }
   }
 
+  private static String codeOf(String path) throws Exception {
+    String text = Files.readString(Path.of(path), StandardCharsets.US_ASCII);
+    return text.replaceAll("(?s)/\\*.*?\\*/", "").replaceAll("//[^\\n]*", "").replaceAll("\"[^\"]*\"", "\"\"");
+  }
+
+  /** All methods and constructors: the class's own are set in by four blanks, those of the classes inside by eight. */
+  private static List<Written> methodsOf(String code) {
+    List<Written> all = new ArrayList<>();
+    String in = "OneLamp";
+    String name = null;
+    String end = "";
+    StringBuilder body = new StringBuilder();
+    for (String line : code.split("\n")) {
+      Matcher inner = Pattern.compile(" {4}private static final class (\\w+) \\{").matcher(line);
+      Matcher begin = Pattern.compile("( {4}| {8})(?:[\\w\\[\\]]+ )*?(\\w+)\\([^()]*\\) \\{").matcher(line);
+      if (name == null && inner.matches()) {
+        in = inner.group(1);
+      } else if (name == null && begin.matches()) {
+        name = begin.group(2);
+        end = begin.group(1) + "}";
+        body.setLength(0);
+      } else if (name != null && line.equals(end)) {
+        all.add(new Written(in, name, body.toString()));
+        name = null;
+      } else if (name != null) {
+        body.append(line).append('\n');
+      }
+    }
+    return all;
+  }
+
+  /** How many calls stand open at most; what calls itself again is recursion and counts once. */
+  private static int depthOf(Written one, List<Written> all, List<Written> open) {
+    open.add(one);
+    int deepest = 0;
+    Matcher call = Pattern.compile("\\b(\\w+)\\(").matcher(one.code());
+    Set<String> names = new TreeSet<>();
+    while (call.find()) names.add(call.group(1));
+    for (Written other : all) {
+      if (names.contains(other.name()) && !open.contains(other)) deepest = Math.max(deepest, depthOf(other, all, open));
+    }
+    open.remove(open.size() - 1);
+    return deepest + 1;
+  }
+
+  private static void calls() throws Exception {
+    List<Written> all = methodsOf(codeOf("src/main/java/OneLamp.java"));
+    int written = 0;
+    List<Class<?>> classes = new ArrayList<>(List.of(OneLamp.class.getDeclaredClasses()));
+    classes.add(OneLamp.class);
+    Set<String> makers = new TreeSet<>();
+    for (Class<?> c : classes) {
+      written += c.getDeclaredMethods().length;
+      makers.add(c.getSimpleName());
+    }
+    int methods = 0;
+    for (Written one : all) {
+      boolean maker = makers.contains(one.name());
+      if (!maker) methods++;
+      must(depthOf(one, all, new ArrayList<>()) <= MOST_DEEP, one.in() + "." + one.name() + " goes no more than eight deep");
+      must(maker || !Pattern.compile("\\bnew\\b").matcher(one.code()).find(), one.in() + "." + one.name() + " makes no object");
+    }
+    must(methods == written, "all " + written + " methods were looked at, not " + methods);
+  }
+
   private static void source() throws Exception {
-    String text = Files.readString(Path.of("src/main/java/OneLamp.java"), StandardCharsets.US_ASCII);
-    String code = text.replaceAll("(?s)/\\*.*?\\*/", "").replaceAll("//[^\\n]*", "").replaceAll("\"[^\"]*\"", "\"\"");
+    String code = codeOf("src/main/java/OneLamp.java");
     for (String banned : BANNED) must(!Pattern.compile("\\b" + banned + "\\b").matcher(code).find(), "no " + banned);
     must(!code.contains("->") && !code.contains("::"), "no lambda, no method reference");
     Matcher library = Pattern.compile("\\b(System|Math|Integer|Long|Arrays)\\.(\\w+)").matcher(code);
@@ -113,6 +181,7 @@ public final class LanguageTest {
   public static void main(String[] args) throws Exception {
     face();
     classes();
+    calls();
     source();
     System.out.println(wrong == 0 ? "face and language are as told" : wrong + " rules are broken");
     if (wrong != 0) System.exit(1);
